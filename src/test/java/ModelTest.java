@@ -2,7 +2,7 @@ import java.util.Random;
 
 /** Random runs of calls, always the same ones, on the class and on the model. */
 public final class ModelTest {
-    private static final int RUNS = 500;
+    private static final int RUNS = 300;
     private static final int[] EDGES = {
         Integer.MIN_VALUE, -1000000, -10, -2, -1, 0, 1, 2, 3, 4, 5, 6, 7, 10, 11,
         48, 49, 99, 100, 200, 255, 256, 999, 1000, Integer.MAX_VALUE,

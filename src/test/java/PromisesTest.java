@@ -158,7 +158,8 @@ public final class PromisesTest {
         due("4 fault: tried", x.count(3), 1);
         due("4 fault: an image is kept", x.back(1), 1);
         x.clear();
-        x.lays(0, 0);
+        due("4 something to undo", x.takes(0), 0);
+        due("4 something to undo", x.lays(0, 0), 1);
         Check.type(x, "t0 1 8 1;p1 20;");
         due("4 anew", x.house(), 2);
         due("4 anew: laws as at first LOW", x.use(0, 0), 4);
@@ -173,6 +174,14 @@ public final class PromisesTest {
         due("4 empty text", x.house(), 0);
         due("4 empty text: no things", x.count(0), 0);
         due("4 empty text: nobody", x.count(1), 0);
+        x = told("d0 1 1 1;d0 1 1 1;");
+        due("4 empty text", x.house(), 0);
+        due("4 empty text: no doors", x.count(2), 0);
+        x = new TwoScales();
+        Check.type(x, "p1 12;");
+        x.clear();
+        Check.type(x, "p1 1");
+        due("4 letters that were cleared don't count", x.house(), -14);
     }
 
     private static void houseRefusesNothingRight() {
@@ -580,6 +589,14 @@ public final class PromisesTest {
         x.rescales(1, 0, 2);
         due("18 by THINGS as they are: 12 .. 18", x.mayBe(60, 0), 7);
         due("18 the least", x.mayBe(60, 1), 12);
+        x = told("k0 20 20;t0 48 96 1;t0 1 7 1;");
+        x.tries(0, 1);
+        due("18 just one", x.mayBe(96, 0), 1);
+        due("18 48, the last", x.mayBe(96, 1), 48);
+        x.forget();
+        x.tries(1, 1);
+        due("18 just one", x.mayBe(7, 0), 1);
+        due("18 1, the first", x.mayBe(7, 1), 1);
         for (int bad : new int[] {-1, 0, 100, MIN, MAX}) {
             due("18 mayBe(" + bad + ", 0)", x.mayBe(bad, 0), BAD);
         }
@@ -593,6 +610,8 @@ public final class PromisesTest {
         TwoScales x = told("t0 1 2 1;t2 1 3 1;t2 1 3 1;");
         due("19 the lowest of the best", x.next(60, 0), 1);
         due("19 left at worst", x.next(60, 1), 28);
+        due("19 nothing FITS one so small", x.next(1, 0), 0);
+        due("19 all are left", x.next(1, 1), 48);
         x.tries(1, 1);
         due("19 nothing tells them apart", x.next(60, 0), 0);
         due("19 as many", x.next(60, 1), 20);
@@ -627,6 +646,11 @@ public final class PromisesTest {
         x = told("k0 60 60;t0 1 96 1;p48 32;");
         due("20 just at 48", x.bestScale(0), 48);
         due("20 just one", x.bestScale(1), 1);
+        x = told("k0 20 20;t0 48 7 1;p1 7;");
+        due("20 just at 1", x.bestScale(0), 1);
+        due("20 just one", x.bestScale(1), 1);
+        x = told("k0 20 20;t0 48 14 1;p1 7;");
+        due("20 just at 2", x.bestScale(0), 2);
         for (int bad : new int[] {-1, 2, MIN, MAX}) {
             due("20 bestScale(" + bad + ")", x.bestScale(bad), BAD);
         }
@@ -643,6 +667,12 @@ public final class PromisesTest {
         due("21 who is too small", x.oneMore(1, 0), 1);
         due("21 nothing FITS him", x.oneMore(1, 1), 0);
         due("21 nothing is changed", x.count(1), 5);
+        x = told("k0 20 20;t0 48 96 1;");
+        due("21 just at 48", x.oneMore(96, 0), 48);
+        due("21 just one", x.oneMore(96, 1), 1);
+        due("21 just at 1", x.oneMore(2, 0), 1);
+        due("21 just one", x.oneMore(2, 1), 1);
+        due("21 just at 2", x.oneMore(4, 0), 2);
         for (int bad : new int[] {-1, 0, 100, MIN, MAX}) {
             due("21 oneMore(" + bad + ", 0)", x.oneMore(bad, 0), BAD);
         }
@@ -715,6 +745,9 @@ public final class PromisesTest {
         x.rescales(0, 0, 2);
         due("23 upper", x.mean(0), 3);
         due("23 lower", x.mean(1), 2);
+        x = told("p7 9;");
+        due("23 of one, upper", x.mean(0), 9);
+        due("23 of one, lower", x.mean(1), 7);
         x = told("p47 99;p43 98;p41 97;p37 96;p48 95;");
         // 47 * 43 * 41 * 37 * 48 is 147161136; by 5 people.
         due("23 a large lower", x.mean(1), 735805680L);
